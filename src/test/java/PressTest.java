@@ -17,6 +17,8 @@ public final class PressTest {
         printByHand();
         printPassesThroughInOneSheet();
         printDriftsFromBefore();
+        printDriftsWhole();
+        printOnTheLargestPress();
         printTakesByCover();
         printKeepsLargeNumbers();
         printRefused();
@@ -279,6 +281,37 @@ public final class PressTest {
         Due.is("ink 1 0", x.ink(1, 0), 2);
         Due.is("ink 1 1", x.ink(1, 1), 4);
         Due.is("ink 1 2", x.ink(1, 2), 4);
+    }
+
+    private static void printDriftsWhole() {
+        InkPress x = new InkPress();
+        x.press(2, 2);
+        x.rule(1, 50);
+        x.rule(2, 10);
+        x.set(0, 0, 40);
+        x.set(1, 0, 80);
+        x.print(1);
+        // 200 and 400 are left on roller 0, of which 10 and 20 go without a rest.
+        Due.is("ink 0 0", x.ink(0, 0), 210);
+        Due.is("ink 0 1", x.ink(0, 1), 390);
+    }
+
+    private static void printOnTheLargestPress() {
+        InkPress x = new InkPress();
+        x.press(8, 5);
+        x.rule(2, 40);
+        for (int z = 0; z < 8; z++) {
+            x.set(z, 0, 100);
+        }
+        x.print(1);
+        // Alike in all zones: what drifts away comes back from beside.
+        int[] due = {500, 250, 125, 63, 62 - 4};
+        for (int r = 0; r < 5; r++) {
+            for (int z = 0; z < 8; z++) {
+                Due.is("ink " + r + " " + z, x.ink(r, z), due[r]);
+            }
+        }
+        Due.is("on", x.told(5), 8 * (1000 - 4));
     }
 
     private static void printTakesByCover() {

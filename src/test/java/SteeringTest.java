@@ -4,6 +4,7 @@ public final class SteeringTest {
         steerAnswers();
         steersOnlyWhenDue();
         steersByGain();
+        steersEveryZone();
         steersWithinStep();
         steersDown();
         goodAsItWasThen();
@@ -75,6 +76,17 @@ public final class SteeringTest {
         Due.is("gain 999", x.zone(1, 0), 0);
         Due.is("gain 1036", x.zone(2, 0), 1);
         Due.is("gain 3996", x.zone(3, 0), 3);
+    }
+
+    private static void steersEveryZone() {
+        InkPress x = new InkPress();
+        x.press(8, 5);
+        x.rule(7, 1);
+        x.steer(true);
+        x.print(1);
+        for (int z = 0; z < 8; z++) {
+            Due.is("key " + z, x.zone(z, 0), 5);
+        }
     }
 
     private static void steersWithinStep() {
@@ -337,6 +349,11 @@ public final class SteeringTest {
         Due.is("key 3", x.zone(3, 0), 20);
         Due.is("presets again", x.presets(), 0);
         Due.is("covers stay", x.zone(1, 1), 35);
+        x.press(8, 2);
+        Due.is("presets of all zones", x.presets(), 8);
+        for (int z = 0; z < 8; z++) {
+            Due.is("key " + z, x.zone(z, 0), 20);
+        }
     }
 
     private static void toldAnswers() {
