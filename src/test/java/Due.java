@@ -2,15 +2,21 @@
 final class Due {
     private static int wrong = 0;
     private static int asked = 0;
+    private static String sentence = "";
 
     private Due() {
+    }
+
+    /** What the document says and the answers from here on are held to. */
+    static void sentence(String of) {
+        sentence = of + ": ";
     }
 
     static void is(String call, long got, long want) {
         asked++;
         if (got != want) {
             wrong++;
-            System.out.println(call + " answered " + got + ", due is " + want);
+            System.out.println(sentence + call + " answered " + got + ", due is " + want);
         }
     }
 
