@@ -30,6 +30,7 @@ public final class TermsEdgesTest {
         theSameSeenTwice();
         refusedOfNew();
         refusedOfUsed();
+        refusedOfOneMark();
         refusedOfFull();
         anyIntOfNew();
         anyIntOfUsed();
@@ -61,9 +62,33 @@ public final class TermsEdgesTest {
 
     private static void refusedOfUsed() {
         Due.sentence("refused calls change nothing, on a press in use");
-        for (Refused one : refusedByRange()) {
+        List<Refused> all = refusedByRange();
+        all.add(new Refused("good 32", x -> x.good(32), UNKNOWN));
+        all.add(new Refused("density 32 0", x -> x.density(32, 0), UNKNOWN));
+        all.add(new Refused("off 3 0", x -> x.off(3, 0), LOST - 1));
+        all.add(new Refused("off 0 2", x -> x.off(0, 2), LOST - 2));
+        all.add(new Refused("orderAt 4", x -> x.orderAt(4), NONE));
+        for (Refused one : all) {
             changesNothing(one, Presses.used(), Presses.used());
         }
+    }
+
+    private static void refusedOfOneMark() {
+        Due.sentence("refused calls change nothing, with one MARK");
+        List<Refused> all = new ArrayList<>();
+        all.add(new Refused("fit 2 1", x -> x.fit(2, 1), LOST - 5));
+        all.add(new Refused("off 0 1", x -> x.off(0, 1), LOST - 5));
+        all.add(new Refused("off 0 2", x -> x.off(0, 2), LOST - 2));
+        all.add(new Refused("off 1 0", x -> x.off(1, 0), LOST - 1));
+        for (Refused one : all) {
+            changesNothing(one, withOneMark(), withOneMark());
+        }
+    }
+
+    private static InkPress withOneMark() {
+        InkPress x = new InkPress();
+        x.mark(7, -8, 9, 10);
+        return x;
     }
 
     private static void refusedOfFull() {
