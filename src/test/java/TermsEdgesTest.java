@@ -35,6 +35,8 @@ public final class TermsEdgesTest {
         anyIntOfNew();
         anyIntOfUsed();
         anyIntOfFull();
+        the512thCall();
+        behindThe512thCall();
         Due.end();
     }
 
@@ -287,5 +289,34 @@ public final class TermsEdgesTest {
         Due.is("wash 1 1 w by " + w, x.wash(1, 1, w), OUTSIDE);
         Due.is("wash w w w by " + w, x.wash(w, w, w), UNKNOWN);
         Due.is("orderAt w by " + w, x.orderAt(w), NONE);
+    }
+
+    private static void the512thCall() {
+        Due.sentence("an object is used for 512 calls");
+        InkPress x = new InkPress();
+        for (int call = 1; call <= 128; call++) {
+            Due.is("steer", x.steer(call % 2 == 1), (call - 1) % 2);
+            Due.is("rule", x.rule(8, call % 20 + 1), call == 1 ? 2 : (call - 1) % 20 + 1);
+            Due.is("set", x.set(3, 2, call), call == 1 ? 100 : call - 1);
+            Due.is("print", x.print(call % 8 == 0 ? 1 : 7), 7 * call - 6 * (call / 8));
+        }
+    }
+
+    private static void behindThe512thCall() {
+        Due.sentence("no call throws, though what is answered behind the 512th is free");
+        InkPress x = Presses.used();
+        for (int round = 0; round < 60; round++) {
+            int w = WILD[round % WILD.length];
+            x.press(2 + round % 7, 2 + round % 4);
+            x.set(1, 0, 100);
+            x.set(w, w, w);
+            x.past(round, round);
+            x.presets();
+            x.steer(true);
+            x.print(200);
+            x.density(w, w);
+            x.off(w, w);
+            Due.holds("all calls of round " + round + " end", !Seen.of(x).isEmpty());
+        }
     }
 }
